@@ -24,7 +24,7 @@ public final class ShareShelf {
     private static final int HELPERS = 8;
 
     private final Galois galois = new Galois();
-    private final Matrices matrices = new Matrices(galois);
+    private final Matrices matrices = new Matrices();
     private final Node[] nodes = new Node[NODES];
     private final Item[] items = new Item[OBJECTS];
     private final Team team = new Team();
@@ -110,7 +110,7 @@ public final class ShareShelf {
             throw new UnsupportedOperationException();
         }
         chooseLowest(able);
-        matrices.decode(nodes, object, team, length);
+        matrices.decode(galois, nodes, object, team, length);
         matrices.spill(read, length);
         readLength = length;
         return length;
@@ -290,7 +290,7 @@ public final class ShareShelf {
             if (nodes[k].live) {
                 Share shadow = nodes[k].shadows[object];
                 shadow.become(item.made, item.putLength);
-                matrices.encode(nodes[k].point, shadow);
+                matrices.encode(galois, nodes[k].point, shadow);
                 left--;
             }
         }
@@ -569,13 +569,8 @@ public final class ShareShelf {
             5, 6, 7, 5, 6, 7, 5, 6, 7, 5, 6, 7, 5, 6, 7
         };
 
-        private final Galois galois;
         private final int[][] rows = new int[SIDE * MOST_STRIPES][SIDE];
         private final int[] values = new int[READERS];
-
-        Matrices(Galois galois) {
-            this.galois = galois;
-        }
 
         void fill(int[] bytes, int length) {
             int end = STRIPE * stripesOf(length);
@@ -596,7 +591,7 @@ public final class ShareShelf {
             }
         }
 
-        void encode(int point, Share share) {
+        void encode(Galois galois, int point, Share share) {
             int count = SIDE * stripesOf(share.length);
             for (int i = 0; i < count; i++) {
                 share.bytes[i] = galois.valueAt(point, rows[i], 0);
@@ -604,7 +599,7 @@ public final class ShareShelf {
         }
 
         /** Fills the matrices from the shares of five nodes. */
-        void decode(Node[] nodes, int object, Team team, int length) {
+        void decode(Galois galois, Node[] nodes, int object, Team team, int length) {
             // From the last row up: the lower three of a stripe have five unknown bytes, and they
             // are the last three bytes of the upper five, which then have five unknown ones too.
             for (int i = SIDE * stripesOf(length) - 1; i >= 0; i--) {

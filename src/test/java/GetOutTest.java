@@ -8,6 +8,7 @@ public final class GetOutTest {
         anyFiveTellIt();
         allLengths();
         onlyLiveAndFreshOnesCount();
+        readersAreChosenAnew();
         noBytes();
         stopped();
         wrongInputs();
@@ -75,6 +76,18 @@ public final class GetOutTest {
         Code.dueRead(shelf, 0, ALL, bytes);
         shelf.fail(11);
         Due.refusesSupport("four are left", () -> shelf.get(0, ALL));
+    }
+
+    private static void readersAreChosenAnew() {
+        ShareShelf shelf = new ShareShelf();
+        int[] old = Code.someBytes(90, 1);
+        int[] bytes = Code.someBytes(90, 2);
+        Code.put(shelf, 0, old);
+        Code.dueRead(shelf, 0, ALL, old);
+        shelf.fail(2);
+        Code.put(shelf, 0, bytes);
+        shelf.back(2, false);
+        Code.dueRead(shelf, 0, ALL, bytes);
     }
 
     private static void noBytes() {
