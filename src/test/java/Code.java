@@ -79,7 +79,7 @@ final class Code {
     }
 
     /** Loads bytes, and behind them up to the word's end what must not be seen. */
-    static void load(ShareShelf shelf, int[] bytes) {
+    static void load(Shelf shelf, int[] bytes) {
         for (int i = 0; 4 * i < bytes.length; i++) {
             int word = 0;
             for (int k = 4 * i; k < 4 * i + 4; k++) {
@@ -89,12 +89,12 @@ final class Code {
         }
     }
 
-    static int put(ShareShelf shelf, int object, int[] bytes) {
+    static long put(Shelf shelf, int object, int[] bytes) {
         load(shelf, bytes);
         return shelf.put(object, bytes.length);
     }
 
-    static void dueShare(ShareShelf shelf, int node, int object, int version, int[] bytes) {
+    static void dueShare(Shelf shelf, int node, int object, int version, int[] bytes) {
         String where = "(" + node + ", " + object;
         Due.is("share" + where + ", 0)", shelf.share(node, object, 0), version);
         Due.is("share" + where + ", 1)", shelf.share(node, object, 1), bytes.length);
@@ -107,7 +107,7 @@ final class Code {
                 () -> shelf.byteAt(node, object, share.length));
     }
 
-    static void dueRead(ShareShelf shelf, int object, int mask, int[] bytes) {
+    static void dueRead(Shelf shelf, int object, int mask, int[] bytes) {
         String call = "get(" + object + ", " + mask + ")";
         Due.is(call, shelf.get(object, mask), bytes.length);
         for (int i = 0; i < bytes.length; i++) {

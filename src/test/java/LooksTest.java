@@ -1,6 +1,6 @@
 /** Promises 8, 12, 13 and 14: object, node, share and byteAt. */
 public final class LooksTest {
-    private static final int[] WRONG = {-1, 12, Integer.MIN_VALUE, Integer.MAX_VALUE};
+    private static final int[] NO_PLACES = {-1, 12, 13, Integer.MIN_VALUE, Integer.MAX_VALUE};
 
     public static void main(String[] args) {
         object();
@@ -10,12 +10,20 @@ public final class LooksTest {
         share();
         shareRefuses();
         byteAt();
-        byteAtRefuses();
+        byteAtRefusesOtherObjects();
+        byteAtRefusesOtherBytes();
+        looksChangeNothing();
         Due.end();
     }
 
+    private static int[] noWhat(int count) {
+        return new int[] {-1, count, count + 1, Integer.MIN_VALUE, Integer.MAX_VALUE};
+    }
+
     private static void object() {
-        ShareShelf shelf = new ShareShelf();
+        Due.sentence("Promise 8: The newest version of an object (what 0), its length (1), whether "
+                + "it is stopped (2: 1 or 0).");
+        Shelf shelf = new Shelf();
         for (int k = 0; k < 12; k++) {
             shelf.put(k, 20 * k);
         }
@@ -34,16 +42,26 @@ public final class LooksTest {
     }
 
     private static void objectRefuses() {
-        ShareShelf shelf = new ShareShelf();
-        for (int wrong : WRONG) {
-            Due.refusesIndex("object(" + wrong + ", 0)", () -> shelf.object(wrong, 0));
-            Due.refusesIndex("object(0, " + wrong + ")", () -> shelf.object(0, wrong));
+        Due.sentence("Promise 8: IndexOutOfBoundsException, when there is no such object or what.");
+        for (int object : NO_PLACES) {
+            for (int k = 0; k < 3; k++) {
+                int what = k;
+                Refused.index(Refused::busy, "object(" + object + ", " + what + ")",
+                        s -> s.object(object, what));
+            }
         }
-        Due.refusesIndex("object(0, 3)", () -> shelf.object(0, 3));
+        for (int what : noWhat(3)) {
+            for (int object : new int[] {0, 3, 11, 12}) {
+                Refused.index(Refused::busy, "object(" + object + ", " + what + ")",
+                        s -> s.object(object, what));
+            }
+        }
     }
 
     private static void node() {
-        ShareShelf shelf = new ShareShelf();
+        Due.sentence("Promise 12: Of a node whether it is live (what 0), how many bytes it has "
+                + "sent (1), for how many objects it is fresh (2), how many shadows it has (3).");
+        Shelf shelf = new Shelf();
         shelf.put(0, 50);
         shelf.fail(11);
         shelf.put(1, 50);
@@ -64,19 +82,39 @@ public final class LooksTest {
         Due.is("node(11, 2)", shelf.node(11, 2), 12);
         Due.is("node(0, 1)", shelf.node(0, 1), 2);
         Due.is("node(8, 1)", shelf.node(8, 1), 0);
+        theMostShadowsAndTheFewestFresh();
+    }
+
+    private static void theMostShadowsAndTheFewestFresh() {
+        Shelf shelf = new Shelf();
+        for (int object = 0; object < 12; object++) {
+            shelf.put(object, 1);
+        }
+        shelf.fail(5);
+        shelf.back(5, true);
+        Due.is("node(5, 2), fresh for none", shelf.node(5, 2), 0);
+        for (int object = 0; object < 12; object++) {
+            shelf.cut(12);
+            shelf.put(object, 1);
+        }
+        Due.is("node(5, 3), a shadow of each", shelf.node(5, 3), 12);
+        Due.is("node(11, 3), a shadow of each", shelf.node(11, 3), 12);
     }
 
     private static void nodeRefuses() {
-        ShareShelf shelf = new ShareShelf();
-        for (int wrong : WRONG) {
-            Due.refusesIndex("node(" + wrong + ", 0)", () -> shelf.node(wrong, 0));
-            Due.refusesIndex("node(0, " + wrong + ")", () -> shelf.node(0, wrong));
+        Due.sentence("Promise 12: IndexOutOfBoundsException, also for another what.");
+        for (int what : noWhat(4)) {
+            for (int node : new int[] {0, 10, 11, 12}) {
+                Refused.index(Refused::busy, "node(" + node + ", " + what + ")",
+                        s -> s.node(node, what));
+            }
         }
-        Due.refusesIndex("node(0, 4)", () -> shelf.node(0, 4));
     }
 
     private static void share() {
-        ShareShelf shelf = new ShareShelf();
+        Due.sentence("Promise 13: Of a node's share of an object, failed or not, its version (what "
+                + "0), length (1).");
+        Shelf shelf = new Shelf();
         shelf.put(10, 77);
         shelf.fail(5);
         shelf.put(10, 78);
@@ -87,21 +125,28 @@ public final class LooksTest {
             Due.is("share(" + k + ", 10, 0)", shelf.share(k, 10, 0), k == 5 ? 1 : last ? 3 : 2);
             Due.is("share(" + k + ", 10, 1)", shelf.share(k, 10, 1), k == 5 ? 77 : last ? 79 : 78);
             Due.is("share(" + k + ", 9, 0)", shelf.share(k, 9, 0), 0);
+            Due.is("share(" + k + ", 9, 1)", shelf.share(k, 9, 1), 0);
         }
     }
 
     private static void shareRefuses() {
-        ShareShelf shelf = new ShareShelf();
-        for (int wrong : WRONG) {
-            Due.refusesIndex("share(" + wrong + ", 0, 0)", () -> shelf.share(wrong, 0, 0));
-            Due.refusesIndex("share(0, " + wrong + ", 0)", () -> shelf.share(0, wrong, 0));
-            Due.refusesIndex("share(0, 0, " + wrong + ")", () -> shelf.share(0, 0, wrong));
+        Due.sentence("Promise 13: IndexOutOfBoundsException, also when there is no such object or "
+                + "what.");
+        for (int object : NO_PLACES) {
+            Refused.index(Refused::busy, "share(0, " + object + ", 0)", s -> s.share(0, object, 0));
+            Refused.index(Refused::busy, "share(11, " + object + ", 1)", s -> s.share(11, object, 1));
         }
-        Due.refusesIndex("share(0, 0, 2)", () -> shelf.share(0, 0, 2));
+        for (int what : noWhat(2)) {
+            String end = ", " + what + ")";
+            Refused.index(Refused::busy, "share(0, 0" + end, s -> s.share(0, 0, what));
+            Refused.index(Refused::busy, "share(10, 11" + end, s -> s.share(10, 11, what));
+            Refused.index(Refused::busy, "share(12, 12" + end, s -> s.share(12, 12, what));
+        }
     }
 
     private static void byteAt() {
-        ShareShelf shelf = new ShareShelf();
+        Due.sentence("Promise 14: Byte i of a node's share of an object (eight of each stripe).");
+        Shelf shelf = new Shelf();
         int[] old = Code.someBytes(240, 1);
         int[] bytes = Code.someBytes(31, 2);
         Code.put(shelf, 0, old);
@@ -115,16 +160,48 @@ public final class LooksTest {
         Code.dueShare(shelf, 1, 0, 2, bytes);
     }
 
-    private static void byteAtRefuses() {
-        ShareShelf shelf = new ShareShelf();
-        shelf.put(0, 240);
-        for (int wrong : WRONG) {
-            Due.refusesIndex("byteAt(" + wrong + ", 0, 0)", () -> shelf.byteAt(wrong, 0, 0));
-            Due.refusesIndex("byteAt(0, " + wrong + ", 0)", () -> shelf.byteAt(0, wrong, 0));
+    private static void byteAtRefusesOtherObjects() {
+        Due.sentence("Promise 14: IndexOutOfBoundsException, also when there is no such object");
+        for (int object : NO_PLACES) {
+            Refused.index(Refused::busy, "byteAt(0, " + object + ", 0)", s -> s.byteAt(0, object, 0));
+            Refused.index(Refused::busy, "byteAt(11, " + object + ", -1)",
+                    s -> s.byteAt(11, object, -1));
         }
-        for (int wrong : new int[] {-1, 64, Integer.MIN_VALUE, Integer.MAX_VALUE}) {
-            Due.refusesIndex("byteAt(0, 0, " + wrong + ")", () -> shelf.byteAt(0, 0, wrong));
+    }
+
+    private static void byteAtRefusesOtherBytes() {
+        Due.sentence("Promise 14: IndexOutOfBoundsException, also when there is no such .. byte.");
+        // Of object 0 node 0 has three stripes; of object 1 the failed node 10 has eight.
+        for (int i : new int[] {-1, 24, 25, 62, 64, Integer.MIN_VALUE, Integer.MAX_VALUE}) {
+            Refused.index(Refused::busy, "byteAt(0, 0, " + i + ")", s -> s.byteAt(0, 0, i));
         }
-        Due.refusesIndex("byteAt(0, 1, 0)", () -> shelf.byteAt(0, 1, 0));
+        for (int i : new int[] {-1, 64, 65, 240, Integer.MIN_VALUE, Integer.MAX_VALUE}) {
+            Refused.index(Refused::busy, "byteAt(10, 1, " + i + ")", s -> s.byteAt(10, 1, i));
+        }
+        Refused.index(Refused::busy, "byteAt(9, 0, 0), emptied", s -> s.byteAt(9, 0, 0));
+        Refused.index(Refused::busy, "byteAt(0, 2, 0), removed", s -> s.byteAt(0, 2, 0));
+        Refused.index(Refused::busy, "byteAt(0, 3, 0), a shadow alone", s -> s.byteAt(0, 3, 0));
+        Refused.index(Refused::busy, "byteAt(0, 11, 0), never put", s -> s.byteAt(0, 11, 0));
+        int[] bytes = Code.someBytes(240, 1);
+        Due.is("byteAt(0, 0, 23)", Refused.busy().byteAt(0, 0, 23),
+                Code.shareOf(0, java.util.Arrays.copyOf(bytes, 62))[23]);
+        Due.is("byteAt(10, 1, 63)", Refused.busy().byteAt(10, 1, 63), Code.shareOf(10, bytes)[63]);
+    }
+
+    private static void looksChangeNothing() {
+        Due.sentence("Not promised: Nothing is promised beyond the answers and state changes "
+                + "described above");
+        Due.same("behind looks", Look.at(() -> {
+            Shelf shelf = Refused.busy();
+            for (int k = 0; k < 12; k++) {
+                shelf.object(k, k % 3);
+                shelf.node(k, k % 4);
+                shelf.share(k, k, k % 2);
+                shelf.byteAt(k % 9, 0, k);
+                shelf.out(k);
+                shelf.field(1 + k, k, k % 2);
+            }
+            return shelf;
+        }), Look.at(Refused::busy));
     }
 }
