@@ -9,6 +9,7 @@ public final class CutSettleTest {
 
     public static void main(String[] args) {
         everyCut();
+        aStoppedObjectStaysSo();
         cutIsForTheNextPut();
         aCutThatStopsNothingIsUsedUp();
         aPutThatThrowsLeavesTheCut();
@@ -68,6 +69,27 @@ public final class CutSettleTest {
             Due.is("shadows of node " + node, shelf.node(node, 3), shadow ? 1 : 0);
             Code.dueShare(shelf, node, 9, turned ? 2 : 1, turned ? NEW : OLD);
             place++;
+        }
+    }
+
+    private static void aStoppedObjectStaysSo() {
+        Due.sentence("Terms: It can be made to STOP behind some messages: the object is stopped then.");
+        for (int messages : new int[] {0, 1, 11, 12, 13, 23}) {
+            Shelf shelf = stopped(messages);
+            shelf.put(8, 5);
+            shelf.cut(23);
+            for (int node = 0; node < 12; node++) {
+                shelf.fail(node);
+                shelf.back(node, false);
+            }
+            shelf.rebuild(0, ALL);
+            Due.is("object(9, 2)", shelf.object(9, 2), 1);
+            Due.is("object(8, 2), another one", shelf.object(8, 2), 0);
+            Due.is("object(9, 0)", shelf.object(9, 0), 1);
+            Due.refusesState("put(9, 1)", () -> shelf.put(9, 1));
+            Due.refusesState("get(9, 4095)", () -> shelf.get(9, ALL));
+            Due.is("settle(9)", shelf.settle(9), messages > 12 ? 1 : 0);
+            Due.is("object(9, 2) when settled", shelf.object(9, 2), 0);
         }
     }
 

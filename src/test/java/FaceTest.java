@@ -15,6 +15,7 @@ public final class FaceTest {
     private static final String SUPPORT = "UnsupportedOperationException";
 
     public static void main(String[] args) throws Exception {
+        Due.sentence("The public face");
         theClass();
         theMethods();
         theFields();
@@ -77,7 +78,9 @@ public final class FaceTest {
     }
 
     private static void theFields() {
+        Due.sentence("The constants: `NONE = -1`: Nothing there.");
         Due.is("NONE", ShareShelf.NONE, -1);
+        Due.sentence("The public face");
         for (Field field : ShareShelf.class.getDeclaredFields()) {
             int modifiers = field.getModifiers();
             String due = field.getName().equals("NONE") ? "public static final" : "private";
